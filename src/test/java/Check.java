@@ -1,0 +1,33 @@
+/** Counts the answers that are not as due, so that one test tells all of them. */
+final class Check {
+    private final String name;
+    private int asked = 0;
+    private int wrong = 0;
+
+    Check(String name) {
+        this.name = name;
+    }
+
+    void due(String call, long got, long want) {
+        asked++;
+        if (got != want) {
+            wrong++;
+            System.out.println(name + ": " + call + " answered " + got + ", due is " + want);
+        }
+    }
+
+    void holds(String claim, boolean so) {
+        due(claim, so ? 1 : 0, 1);
+    }
+
+    int wrong() {
+        return wrong;
+    }
+
+    void end() {
+        System.out.println(name + ": " + asked + " answers, " + wrong + " not as due");
+        if (asked == 0 || wrong != 0) {
+            System.exit(1);
+        }
+    }
+}
