@@ -230,7 +230,8 @@ public final class PotCuts {
     }
 
     private void seeNextRun() {
-        still.distil(now, now.kept);
+        still.boil(now, now.kept);
+        still.cutAt(now.rules[FORE], now.rules[CUT]);
     }
 
     private Told imageAt(int k) {
@@ -426,11 +427,6 @@ public final class PotCuts {
         int headsEnd = 0;
         int heartEnd = 0;
 
-        void distil(Told told, Liquid kept) {
-            boil(told, kept);
-            cutAt(told.rules[FORE], told.rules[CUT]);
-        }
-
         void boil(Told told, Liquid kept) {
             int litres = told.wash[LITRES];
             charge.put(litres, litres * told.wash[SPIRIT], told.wash[HEADY], told.wash[OILY]);
@@ -550,44 +546,42 @@ public final class PotCuts {
     private static final class Forecast {
         final Liquid kept = new Liquid();
         final Liquid hearts = new Liquid();
-        final Row past = new Row(MOST_RUNS);
+        final Liquid heartsAhead = new Liquid();
+        final Row pastKept = new Row(MOST_RUNS);
+        final Row pastHearts = new Row(MOST_RUNS);
         int ahead = 0;
         int round = 0;
 
         void begin(Told told) {
             kept.become(told.kept);
             hearts.clear();
+            pastKept.clear();
+            pastHearts.clear();
         }
 
         void goOn(Told told, Still still) {
-            still.distil(told, kept);
+            pastKept.append(kept);
+            pastHearts.append(hearts);
+            still.boil(told, kept);
+            still.cutAt(told.rules[FORE], told.rules[CUT]);
             still.keepInto(kept);
             hearts.add(still.heart);
         }
 
         boolean settle(Told told, Still still) {
             begin(told);
-            past.clear();
             for (int runs = 1; runs <= MOST_RUNS; runs++) {
-                past.append(kept);
                 goOn(told, still);
-                int earlier = past.find(kept);
+                int earlier = pastKept.find(kept);
                 if (earlier >= 0) {
                     ahead = earlier;
                     round = runs - earlier;
-                    gatherRound(told, still);
+                    pastHearts.load(earlier, heartsAhead);
+                    hearts.lose(heartsAhead);
                     return true;
                 }
             }
             return false;
-        }
-
-        /** What is KEPT is as it was at the ROUND's beginning, so that going on goes through the ROUND again. */
-        void gatherRound(Told told, Still still) {
-            hearts.clear();
-            for (int i = 0; i < round; i++) {
-                goOn(told, still);
-            }
         }
 
         /** 0, which no cask can need, if HEARTS have too few LITRES within MOST_RUNS. */

@@ -1,106 +1,13 @@
-import java.util.ArrayList;
 import java.util.List;
 
 /** Each promise by its number: ordinary calls, the edges that the document names, wrong calls. */
-public final class PromiseTest {
-    private static final int UNKNOWN = -1, OUTSIDE = -2, STATE = -3, NONE = -6;
-    private static final int MIN = Integer.MIN_VALUE, MAX = Integer.MAX_VALUE;
-    private static final int FORE = 0, CUT = 1, END = 2, FAST = 3, SLOW = 4, LIMIT = 5;
-    private static final int[] FIRST_TABLE = {0, 450, 600, 690, 740, 780, 820, 860, 900, 950, 1000};
-
-    private final Check check;
-    private PotCuts pot = new PotCuts();
-
+public final class PromiseTest extends Bench {
     private PromiseTest(Check check) {
-        this.check = check;
-    }
-
-    private void due(String call, long got, long want) {
-        check.due(call, got, want);
-    }
-
-    private void rules(int... values) {
-        for (int i = 0; i < values.length; i++) {
-            pot.rule(i, values[i]);
-        }
-    }
-
-    /** All that can be told of what is held; what is refused must leave it as it was. */
-    private List<Integer> snapshot() {
-        List<Integer> all = new ArrayList<>();
-        for (int what = 0; what <= 30; what++) {
-            all.add(pot.count(what));
-        }
-        for (int what = 0; what <= 5; what++) {
-            all.add(pot.kept(what));
-            for (int page = 0; page < 12; page++) {
-                all.add(pot.page(page, what));
-            }
-        }
-        return all;
-    }
-
-    private void unchanged(String after, List<Integer> before) {
-        check.holds(after + " changes nothing", before.equals(snapshot()));
-    }
-
-    private void liquidDue(String name, long[] got, long... want) {
-        for (int what = 0; what < want.length; what++) {
-            due(name + " " + what, got[what], want[what]);
-        }
-    }
-
-    private long[] part(int which) {
-        long[] told = new long[6];
-        for (int what = 0; what <= 5; what++) {
-            told[what] = pot.part(which, what);
-        }
-        return told;
-    }
-
-    private long[] kept() {
-        long[] told = new long[6];
-        for (int what = 0; what <= 5; what++) {
-            told[what] = pot.kept(what);
-        }
-        return told;
-    }
-
-    private long[] page(int page) {
-        long[] told = new long[6];
-        for (int what = 0; what <= 5; what++) {
-            told[what] = pot.page(page, what);
-        }
-        return told;
-    }
-
-    private long[] litre(int i) {
-        long[] told = new long[5];
-        for (int what = 0; what <= 4; what++) {
-            told[what] = pot.litre(i, what);
-        }
-        return told;
-    }
-
-    /** A LITRE a RUN, all of it HEART: STRENGTH 300, y 690, but there are only 600 of SPIRIT. */
-    private void oneLitreOfHeart() {
-        pot = new PotCuts();
-        pot.wash(2, 300, 0, 0);
-        rules(0, 0, 0);
-    }
-
-    /** Nine LITRES with y 0, then, as STRENGTH is above 1000, two with y 1000. */
-    private void lateSpirit(int heady) {
-        pot = new PotCuts();
-        for (int place = 0; place <= 9; place++) {
-            pot.table(place, 0);
-        }
-        pot.wash(12, 300, heady, 0);
-        rules(1, 600, 0);
+        super(check);
     }
 
     private void promise1() {
-        pot = new PotCuts();
+        fresh();
         liquidDue("1 kept", kept(), 0, 0, 0, 0, 0, 0);
         due("1 runs", pot.count(0), 0);
         due("1 pages", pot.count(1), 0);
@@ -108,18 +15,16 @@ public final class PromiseTest {
         due("1 page(0, 0)", pot.page(0, 0), UNKNOWN);
         due("1 restore(0)", pot.restore(0), STATE);
         due("1 restore(1)", pot.restore(1), STATE);
-        int[] wash = {12, 80, 20, 40};
-        for (int i = 0; i < wash.length; i++) {
-            due("1 wash at first " + i, pot.count(3 + i), wash[i]);
+        for (int i = 0; i < FIRST_WASH.length; i++) {
+            due("1 wash at first " + i, pot.count(3 + i), FIRST_WASH[i]);
         }
-        int[] rules = {1, 600, 200, 5, 9, 10};
-        for (int i = 0; i < rules.length; i++) {
-            due("1 rule at first " + i, pot.count(10 + i), rules[i]);
+        for (int i = 0; i < FIRST_RULES.length; i++) {
+            due("1 rule at first " + i, pot.count(10 + i), FIRST_RULES[i]);
         }
         for (int i = 0; i < FIRST_TABLE.length; i++) {
             due("1 table at first " + i, pot.count(20 + i), FIRST_TABLE[i]);
         }
-        PotCuts other = new PotCuts();
+        Pot other = new Pot();
         pot.table(3, 7);
         pot.rule(CUT, 7);
         pot.wash(7, 7, 7, 7);
@@ -130,7 +35,7 @@ public final class PromiseTest {
         due("1 another object's wash", other.count(3), 12);
         due("1 another object's runs", other.count(0), 0);
         due("1 another object's images", other.count(2), 0);
-        due("1 a later object's table", new PotCuts().count(23), 690);
+        due("1 a later object's table", new Pot().count(23), 690);
     }
 
     private void washIs(int litres, int spirit, int heady, int oily) {
@@ -142,7 +47,7 @@ public final class PromiseTest {
     }
 
     private void promise2() {
-        pot = new PotCuts();
+        fresh();
         due("2 wash(5, 100, 7, 9)", pot.wash(5, 100, 7, 9), 12);
         washIs(5, 100, 7, 9);
         due("2 wash(30, 300, 99, 99)", pot.wash(30, 300, 99, 99), 5);
@@ -160,7 +65,7 @@ public final class PromiseTest {
     }
 
     private void promise3() {
-        pot = new PotCuts();
+        fresh();
         for (int place = 0; place <= 10; place++) {
             due("3 table " + place, pot.table(place, 1000 - place), FIRST_TABLE[place]);
         }
@@ -181,12 +86,11 @@ public final class PromiseTest {
     }
 
     private void promise4() {
-        pot = new PotCuts();
-        int[] first = {1, 600, 200, 5, 9, 10};
+        fresh();
         int[] least = {0, 0, 0, 1, 1, 0};
         int[] most = {9, 1000, 1000, 9, 99, 99};
         for (int what = 0; what <= 5; what++) {
-            due("4 least " + what, pot.rule(what, least[what]), first[what]);
+            due("4 least " + what, pot.rule(what, least[what]), FIRST_RULES[what]);
             due("4 most " + what, pot.rule(what, most[what]), least[what]);
             due("4 told " + what, pot.count(10 + what), most[what]);
             List<Integer> before = snapshot();
@@ -203,7 +107,7 @@ public final class PromiseTest {
     }
 
     private void promise5() {
-        pot = new PotCuts();
+        fresh();
         for (int place = 0; place <= 10; place++) {
             due("5 over at place " + place, pot.over(100 * place), FIRST_TABLE[place]);
         }
@@ -227,7 +131,7 @@ public final class PromiseTest {
     }
 
     private void promise6() {
-        pot = new PotCuts();
+        fresh();
         due("6 run()", pot.run(), 0);
         liquidDue("6 kept", kept(), 2, 603, 16, 5, 301, 10);
         due("6 runs", pot.count(0), 1);
@@ -256,7 +160,7 @@ public final class PromiseTest {
     }
 
     private void runTakesPartsAsSeen() {
-        pot = new PotCuts();
+        fresh();
         pot.wash(20, 200, 50, 60);
         rules(2, 500, 100, 3, 20);
         for (int i = 0; i < 6; i++) {
@@ -274,7 +178,7 @@ public final class PromiseTest {
     }
 
     private void promise7() {
-        pot = new PotCuts();
+        fresh();
         List<Integer> before = snapshot();
         for (int what = 0; what <= 4; what++) {
             due("7 litre(-1, " + what + ")", pot.litre(-1, what), 2);
@@ -298,7 +202,7 @@ public final class PromiseTest {
     }
 
     private void whatOneLitreTakes() {
-        pot = new PotCuts();
+        fresh();
         // y 690 of STRENGTH 300, but SPIRIT is only 600; HEADY 99 by FAST 9 is 89 and 1 more.
         pot.wash(2, 300, 99, 99);
         rules(0, 0, 0, 9, 1);
@@ -321,7 +225,7 @@ public final class PromiseTest {
     }
 
     private void whenNoMoreGoesOver() {
-        pot = new PotCuts();
+        fresh();
         pot.wash(1, 300, 99, 99);
         due("7 one litre stays", pot.litre(-1, 0), 0);
         due("7 no litre 0", pot.litre(0, 0), UNKNOWN);
@@ -330,7 +234,7 @@ public final class PromiseTest {
         due("7 y is END", pot.litre(-1, 0), 1);
         pot.rule(END, 691);
         due("7 y is below END", pot.litre(-1, 0), 0);
-        pot = new PotCuts();
+        fresh();
         pot.wash(30, 300, 0, 0);
         rules(1, 1000, 0);
         due("7 all but one", pot.litre(-1, 0), 29);
@@ -347,7 +251,7 @@ public final class PromiseTest {
     }
 
     private void sidesOfLitres() {
-        pot = new PotCuts();
+        fresh();
         pot.wash(12, 300, 0, 0);
         rules(2, 600, 0);
         int tails = 0;
@@ -373,7 +277,7 @@ public final class PromiseTest {
     }
 
     private void promise8() {
-        pot = new PotCuts();
+        fresh();
         List<Integer> before = snapshot();
         liquidDue("8 charge", part(0), 12, 960, 20, 40, 80, 5);
         liquidDue("8 heads", part(1), 1, 360, 11, 2, 360, 13);
@@ -401,7 +305,7 @@ public final class PromiseTest {
     }
 
     private void promise9() {
-        pot = new PotCuts();
+        fresh();
         liquidDue("9 kept at first", kept(), 0, 0, 0, 0, 0, 0);
         pot.run();
         liquidDue("9 kept of heads and tails", kept(), 2, 603, 16, 5, 301, 10);
@@ -412,7 +316,7 @@ public final class PromiseTest {
     }
 
     private void promise10() {
-        pot = new PotCuts();
+        fresh();
         due("10 pour() of nothing", pot.pour(), 0);
         pot.run();
         due("10 pour()", pot.pour(), 2);
@@ -431,12 +335,12 @@ public final class PromiseTest {
     }
 
     private void promise11() {
-        pot = new PotCuts();
+        fresh();
         pot.rule(END, 1000);
         settledIs("of nothing", 0, 1, 0, 0);
         oneLitreOfHeart();
         settledIs("at once", 0, 1, 1, 600);
-        pot = new PotCuts();
+        fresh();
         pot.wash(10, 286, 80, 28);
         rules(1, 407, 179, 2, 91);
         List<Integer> before = snapshot();
@@ -459,16 +363,16 @@ public final class PromiseTest {
     }
 
     private void settledWithin300() {
-        pot = new PotCuts();
+        fresh();
         pot.wash(10, 101, 6, 15);
         rules(6, 630, 219, 5, 80);
         settledIs("by the 300th run", 299, 1, 1, 645);
-        pot = new PotCuts();
+        fresh();
         pot.wash(7, 139, 86, 97);
         rules(5, 567, 205, 5, 25);
         settledIs("by the 300th run, in a round of 3", 297, 3, 4, 2436);
         // By the 301st RUN: not within 300 now, within 300 when one of them is behind.
-        pot = new PotCuts();
+        fresh();
         pot.wash(25, 35, 62, 47);
         rules(4, 681, 13, 4, 14);
         settledIs("by the 301st run", NONE, NONE, NONE, NONE);
@@ -487,7 +391,7 @@ public final class PromiseTest {
     }
 
     private void promise12() {
-        pot = new PotCuts();
+        fresh();
         List<Integer> before = snapshot();
         // By FORE 0: both LITRES by CUT 200 (taint 21 by 2), the first alone by 250 to 350 (13: too much);
         // by FORE 1: the second alone, by CUT 200 (8).
@@ -522,7 +426,7 @@ public final class PromiseTest {
 
     private void bestEdges() {
         // HEARTS without SPIRIT are GOOD, too: of two LITRES by FORE 0, of one by FORE 1.
-        pot = new PotCuts();
+        fresh();
         pot.wash(3, 0, 0, 0);
         rules(1, 600, 0);
         bestIs("without spirit", 0, 0, 0, 0, 2);
@@ -540,13 +444,13 @@ public final class PromiseTest {
         pot.rule(LIMIT, 9);
         bestIs("with LIMIT 9", 0, 0, 2000, 9, 30);
         // The next RUN's, not the last one's: what is KEPT counts.
-        pot = new PotCuts();
+        fresh();
         pot.run();
         due("12 spirit with what is kept", pot.best(2) > 603 ? 1 : 0, 1);
     }
 
     private void promise13() {
-        pot = new PotCuts();
+        fresh();
         due("13 take()", pot.take(), 603);
         due("13 FORE", pot.count(10), 0);
         due("13 CUT", pot.count(11), 200);
@@ -562,7 +466,7 @@ public final class PromiseTest {
         List<Integer> before = snapshot();
         due("13 take() of none", pot.take(), STATE);
         unchanged("13 a take() of none", before);
-        pot = new PotCuts();
+        fresh();
         pot.wash(3, 0, 0, 0);
         rules(1, 600, 0);
         due("13 take() without spirit", pot.take(), 0);
@@ -581,7 +485,7 @@ public final class PromiseTest {
         due("14 cask(999, 0)", pot.cask(999, 0), NONE);
         unchanged("14 cask", before);
         // Two LITRES a RUN, SPIRIT 360 and 243 (603 by 2 is 301): three LITRES need two RUNS.
-        pot = new PotCuts();
+        fresh();
         rules(0, 200);
         due("14 cask(2, 0)", pot.cask(2, 0), 1);
         due("14 cask(3, 0)", pot.cask(3, 0), 2);
@@ -597,7 +501,7 @@ public final class PromiseTest {
     }
 
     private void caskCountsWhatIsKept() {
-        pot = new PotCuts();
+        fresh();
         pot.wash(12, 200, 30, 30);
         int wanted = 25;
         int told = pot.cask(wanted, 0);
@@ -641,7 +545,7 @@ public final class PromiseTest {
         due("15 page(0, 6)", pot.page(0, 6), OUTSIDE);
         due("15 page(0, -1)", pot.page(0, -1), OUTSIDE);
         due("15 page(4, MAX)", pot.page(4, MAX), OUTSIDE);
-        due("15 page of a new book", new PotCuts().page(0, 0), UNKNOWN);
+        due("15 page of a new book", new Pot().page(0, 0), UNKNOWN);
     }
 
     private void promise16() {
@@ -684,7 +588,7 @@ public final class PromiseTest {
     }
 
     private void promise17And18() {
-        pot = new PotCuts();
+        fresh();
         pot.wash(20, 200, 50, 60);
         pot.run();
         pot.run();
@@ -710,7 +614,7 @@ public final class PromiseTest {
         due("18 restore(0) of what is there now", pot.restore(0), 1);
         unchanged("18 restore(0) of what is there now", second);
         wrongImages(second);
-        pot = new PotCuts();
+        fresh();
         due("17 image(1) alone", pot.image(1), 1);
         due("17 images of 1 alone", pot.count(2), 2);
         due("18 restore(0) beside it", pot.restore(0), STATE);
@@ -731,7 +635,7 @@ public final class PromiseTest {
     }
 
     private void promise19() {
-        pot = new PotCuts();
+        fresh();
         pot.run();
         pot.run();
         pot.weed(1000);
@@ -760,12 +664,15 @@ public final class PromiseTest {
 
     /** What the 513th call answers is free, but LANGUAGE.md lets no call throw: OILY grows past an int here. */
     private void farBeyondTheLimit() {
-        pot = new PotCuts();
+        PotCuts pot = new PotCuts();
         for (int place = 0; place <= 10; place++) {
             pot.table(place, 0);
         }
         pot.wash(30, 300, 99, 99);
-        rules(9, 1000, 0, 9, 1, 99);
+        int[] rules = {9, 1000, 0, 9, 1, 99};
+        for (int i = 0; i < rules.length; i++) {
+            pot.rule(i, rules[i]);
+        }
         for (int i = 0; i < 60000; i++) {
             pot.run();
         }
@@ -797,6 +704,7 @@ public final class PromiseTest {
         test.promise16();
         test.promise17And18();
         test.promise19();
+        test.fresh();
         test.farBeyondTheLimit();
         check.end();
     }
