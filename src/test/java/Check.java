@@ -3,6 +3,7 @@ final class Check {
     private final String name;
     private int asked = 0;
     private int wrong = 0;
+    private String inside = "";
 
     Check(String name) {
         this.name = name;
@@ -12,12 +13,25 @@ final class Check {
         asked++;
         if (got != want) {
             wrong++;
-            System.out.println(name + ": " + call + " answered " + got + ", due is " + want);
+            System.out.println(name + ": " + inside + call + " answered " + got + ", due is " + want);
         }
     }
 
     void holds(String claim, boolean so) {
         due(claim, so ? 1 : 0, 1);
+    }
+
+    /** What is asked from now on belongs to this case. */
+    void enter(String which) {
+        inside = which + ": ";
+    }
+
+    void leave() {
+        inside = "";
+    }
+
+    int asked() {
+        return asked;
     }
 
     int wrong() {
