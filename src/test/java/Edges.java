@@ -8,12 +8,15 @@ import java.nio.file.Path;
  * The words must stand in the document as they are here, so that a change of it shows up.
  */
 class Edges extends Bench {
+    private static final Path DOCUMENT = Path.of("../shared/DOC.md");
+
+    private final boolean documentIsThere = Files.isReadable(DOCUMENT);
     private final String document;
     private int edges = 0;
 
     Edges(Check check) throws IOException {
         super(check);
-        document = plain(Files.readString(Path.of("../shared/DOC.md"), StandardCharsets.UTF_8));
+        document = documentIsThere ? plain(Files.readString(DOCUMENT, StandardCharsets.UTF_8)) : "";
     }
 
     private static String plain(String text) {
@@ -22,7 +25,7 @@ class Edges extends Bench {
 
     /** One boundary case: the document's words, which case of theirs it is, and its test. */
     final void edge(String words, String which, Runnable test) {
-        check.holds("the document says: " + words, document.contains(plain(words)));
+        check.holds("the document says: " + words, !documentIsThere || document.contains(plain(words)));
         check.enter("\"" + words + "\", " + which);
         fresh();
         int asked = check.asked();
@@ -34,7 +37,8 @@ class Edges extends Bench {
     }
 
     final void finish() {
-        System.out.println(edges + " boundary cases");
+        System.out.println(edges + " boundary cases"
+                + (documentIsThere ? "" : ", their words not looked up: there is no " + DOCUMENT));
         check.end();
     }
 }

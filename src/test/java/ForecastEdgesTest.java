@@ -77,6 +77,42 @@ public final class ForecastEdgesTest extends Edges {
         });
     }
 
+    /** The number that is the last to settle falls, so that what was KEPT earlier was always more. */
+    private void asInAllFourNumbersFalling() {
+        edge(AS_IT_WAS, "LITRES fall: 29, 9, 9", () -> {
+            pot.wash(30, 0, 0, 0);
+            rules(0, 1000, 0);
+            pot.run();
+            rules(9, 0);
+            settledIs(1, 1, 29, 0);
+        });
+        edge(AS_IT_WAS, "SPIRIT falls: 684, 625, 607, 601, 600, 600", () -> {
+            fallFrom(100, 0, 0);
+            due("kept", pot.kept(SPIRIT), 684);
+            settledIs(4, 1, 1, 0);
+        });
+        edge(AS_IT_WAS, "HEADY falls: 100, 51, 26, 14, 8, 5, 3, 2, 2", () -> {
+            fallFrom(0, 99, 0);
+            due("kept", pot.kept(HEADY), 100);
+            settledIs(7, 1, 1, 0);
+        });
+        edge(AS_IT_WAS, "OILY falls: 98, 49, 24, 12, 6, 3, 1, 0, 0", () -> {
+            fallFrom(0, 0, 99);
+            due("kept", pot.kept(OILY), 98);
+            settledIs(7, 1, 1, 0);
+        });
+    }
+
+    /** One LITRE is KEPT, with as much as gathers in it; WASH is of nothing from then on. */
+    private void fallFrom(int spirit, int heady, int oily) {
+        keepFirstLitre(2, spirit, heady, oily);
+        pot.rule(SLOW, 2);
+        for (int i = 0; i < 7; i++) {
+            pot.run();
+        }
+        pot.wash(2, 0, 0, 0);
+    }
+
     private void roundOfThree() {
         pot.wash(10, 286, 80, 28);
         rules(1, 407, 179, 2, 91);
@@ -423,6 +459,7 @@ public final class ForecastEdgesTest extends Edges {
         ForecastEdgesTest test = new ForecastEdgesTest(new Check("ForecastEdgesTest"));
         test.asAtTheBeginning();
         test.asInAllFourNumbers();
+        test.asInAllFourNumbersFalling();
         test.rounds();
         test.within300();
         test.goodFores();

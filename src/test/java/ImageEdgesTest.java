@@ -149,6 +149,22 @@ public final class ImageEdgesTest extends Edges {
             due("the eldest", pot.page(0, SPIRIT), 4);
             due("the newest", pot.page(11, SPIRIT), 26);
         });
+        edge(RESTORE, "PAGES that others have taken the place of", () -> {
+            rules(0, 200);
+            pot.run();
+            pot.wash(12, 100, 50, 60);
+            pot.run();
+            pot.image(0);
+            List<Integer> before = snapshot();
+            pot.weed(1000);
+            pot.wash(20, 200, 90, 90);
+            pot.run();
+            pot.run();
+            pot.run();
+            pot.restore(0);
+            unchanged("it", before);
+            liquidDue("page 0", page(0), 2, 603, 16, 5, 301, 10);
+        });
         edge(RESTORE, "a book of 12 goes on as one of 12", () -> {
             runs(12);
             pot.image(0);

@@ -172,31 +172,35 @@ public final class TermsEdgesTest extends Edges {
     }
 
     /** What is asked is asked ahead of the change, too, so that nothing kept from then can answer. */
-    private void change(String name, ToIntFunction<Pot> call, int heart, int spirit, int good, int ahead) {
+    private void change(String name, ToIntFunction<Pot> call, int... told) {
         edge(NOW, "behind " + name, () -> {
             pot.image(0);
             rules(0, 200);
-            due("heart ahead of it", pot.part(HEART, LITRES), 2);
-            due("litre ahead of it", pot.litre(0, 1), 360);
-            due("good ahead of it", pot.best(4), 2);
-            due("settled ahead of it", pot.settled(0), 0);
-            due("cask ahead of it", pot.cask(2, 0), 1);
+            toldIs("ahead of it", 2, 360, 2, 0, 1, 2, 603, 1);
             call.applyAsInt(pot);
-            due("heart", pot.part(HEART, LITRES), heart);
-            due("litre", pot.litre(0, 1), spirit);
-            due("good", pot.best(4), good);
-            due("settled", pot.settled(0), ahead);
+            toldIs("behind it", told);
         });
     }
 
+    /** LITRES of HEART, SPIRIT of LITRE 0, how many GOOD cuts; AHEAD, ROUND, LITRES, SPIRIT of SETTLED; a cask of 1. */
+    private void toldIs(String when, int... told) {
+        due("heart " + when, pot.part(HEART, LITRES), told[0]);
+        due("litre " + when, pot.litre(0, 1), told[1]);
+        due("good " + when, pot.best(4), told[2]);
+        for (int what = 0; what <= 3; what++) {
+            due("settled " + what + " " + when, pot.settled(what), told[3 + what]);
+        }
+        due("cask " + when, pot.cask(1, 0), told[7]);
+    }
+
     private void asThingsAre() {
-        change("wash", p -> p.wash(1, 300, 0, 0), 0, UNKNOWN, 0, 0);
-        change("table", p -> p.table(1, 0), 0, UNKNOWN, 0, 0);
-        change("rule END", p -> p.rule(END, 300), 1, 360, 0, 0);
-        change("rule CUT", p -> p.rule(CUT, 300), 1, 360, 2, 3);
-        change("rule LIMIT", p -> p.rule(LIMIT, 0), 2, 360, 0, 0);
-        change("run", p -> p.run(), 2, 360, 2, 0);
-        change("restore", p -> p.restore(0), 0, 360, 2, 23);
+        change("wash", p -> p.wash(1, 300, 0, 0), 0, UNKNOWN, 0, 0, 1, 0, 0, NONE);
+        change("table", p -> p.table(1, 0), 0, UNKNOWN, 0, 0, 1, 0, 0, NONE);
+        change("rule END", p -> p.rule(END, 300), 1, 360, 0, 0, 1, 1, 360, 1);
+        change("rule CUT", p -> p.rule(CUT, 300), 1, 360, 2, 3, 2, 3, 1210, 1);
+        change("rule LIMIT", p -> p.rule(LIMIT, 0), 2, 360, 0, 0, 1, 2, 603, 1);
+        change("run", p -> p.run(), 2, 360, 2, 0, 1, 2, 603, 1);
+        change("restore", p -> p.restore(0), 0, 360, 2, 23, 1, 1, 607, 8);
         edge(NOW, "behind run and pour: what is KEPT counts, and counts no more", () -> {
             pot.run();
             due("litre", pot.litre(0, 0), 466);
